@@ -98,7 +98,9 @@ public final class Glosstemplate {
         } else {
             words.setOwn(language, word, grammar, buffer);
         }
-        return clear();
+        int length = buffer.length();
+        buffer.empty();
+        return length;
     }
 
     /** Makes a clause without texts; returns its number. */

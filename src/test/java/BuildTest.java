@@ -161,24 +161,35 @@ public final class BuildTest {
     }
 
     private static void longestLetter() {
+        StringBuilder due = new StringBuilder();
+        for (int i = 0; i < 6; i++) {
+            due.append(i == 0 ? "" : " ").append("abcdefghijklmn".repeat(12));
+        }
+        due.setCharAt(0, 'A');
+        // Fifty places an object: an object answers 512 calls only.
+        for (int from = 0; from <= due.length(); from += 50) {
+            Desk desk = withLongestLetter();
+            for (int place = from; place < from + 50; place++) {
+                int sign = place < due.length() ? due.charAt(place) : 0;
+                CHECK.equal("sign at " + place, sign, desk.g.sign(0, 0, 2, place));
+                CHECK.equal("signAnew at " + place, sign, desk.g.signAnew(0, 0, 2, place));
+            }
+            CHECK.equal("costs", 6, desk.g.costs(0, 0, 2));
+        }
+    }
+
+    private static Desk withLongestLetter() {
         Desk desk = new Desk();
         desk.word("abcdefghij");
         desk.ending(2, 7, "klmn");
         desk.g.data(0, 0);
         desk.g.letter();
-        StringBuilder due = new StringBuilder();
         for (int i = 0; i < 6; i++) {
             desk.g.clause(NONE);
             desk.text(i, 2, "[4ap]".repeat(12));
             desk.g.put(0, i);
-            due.append(i == 0 ? "" : " ").append("abcdefghijklmn".repeat(12));
         }
-        due.setCharAt(0, 'A');
-        CHECK.same("sign", due.toString(), desk.built(0, 0, 2));
-        CHECK.same("signAnew", due.toString(), desk.builtAnew(0, 0, 2));
-        CHECK.equal("its end", 'n', desk.g.sign(0, 0, 2, 1012));
-        CHECK.equal("behind its end", 0, desk.g.sign(0, 0, 2, 1013));
-        CHECK.equal("costs", 6, desk.g.costs(0, 0, 2));
+        return desk;
     }
 
     private static void signIsRefused() {

@@ -5,15 +5,13 @@ final class Check {
         Object run();
     }
 
+    private static final int MOST_PRINTED = 20;
+
     private int checked = 0;
     private int wrong = 0;
 
     void equal(String what, long due, long got) {
-        checked++;
-        if (due != got) {
-            wrong++;
-            System.out.println(what + " answered " + got + ", due is " + due);
-        }
+        same(what, String.valueOf(due), String.valueOf(got));
     }
 
     void yes(String what, boolean got) {
@@ -28,8 +26,14 @@ final class Check {
         checked++;
         if (!due.equals(got)) {
             wrong++;
-            System.out.println(what + " answered " + got + ", due is " + due);
+            if (wrong <= MOST_PRINTED) {
+                System.out.println(what + " answered " + got + ", due is " + due);
+            }
         }
+    }
+
+    int wrong() {
+        return wrong;
     }
 
     /** The very class that is documented is due: a subclass of it would be the machine's own. */

@@ -5,6 +5,7 @@ public final class RandomRunsTest {
     private static final Check CHECK = new Check();
     private static final int RUNS = 3000;
     private static final int CALLS = 512;
+    private static final int WRONG_RUNS = 3;
     private static final int[] ODD = {-2, -1, 3, 4, 5, 8, 10, 12, 255, 256, 1001, Integer.MIN_VALUE, Integer.MAX_VALUE};
     private static final String[] PIECES = {
         "a", "o", "ka", "tot", "en", "x.", " ", ".", ". ", "[0ns]", "[1gp]", "[2ds]", "[3ap]", "[4np]", "[0as]",
@@ -27,7 +28,7 @@ public final class RandomRunsTest {
     }
 
     public static void main(String[] args) {
-        for (int seed = 0; seed < RUNS; seed++) {
+        for (int seed = 0; seed < RUNS && CHECK.wrong() < WRONG_RUNS; seed++) {
             new RandomRunsTest(seed).run(seed % 3);
         }
         CHECK.end();
@@ -55,6 +56,9 @@ public final class RandomRunsTest {
         String due = Check.outcome(ofModel);
         String got = Check.outcome(ofReal);
         CHECK.same(due.equals(got) ? what : told + " " + what, due, got);
+        if (!due.equals(got)) {
+            calls = CALLS;
+        }
         return Character.isDigit(due.charAt(0)) || due.charAt(0) == '-';
     }
 

@@ -126,17 +126,17 @@ public final class WordTest {
     }
 
     private static void formsByGrammar() {
-        Desk desk = new Desk();
-        int word = desk.word("kal");
-        int other = desk.word("tot");
-        for (int grammar = 0; grammar < 8; grammar++) {
-            desk.ending(1, grammar, "r" + (char) ('a' + grammar));
-            desk.own(1, other, grammar, "own" + (char) ('p' + grammar));
-        }
-        for (int grammar = 0; grammar < 8; grammar++) {
-            String slot = "[0" + CASES.charAt(grammar / 2) + NUMBERS.charAt(grammar % 2) + "]";
-            CHECK.same("form " + slot, "Kalr" + (char) ('a' + grammar), shown(desk, 1, word, slot));
-            CHECK.same("own form " + slot, "Own" + (char) ('p' + grammar), shown(desk, 1, other, slot));
+        for (int shown = 0; shown < 8; shown++) {
+            Desk desk = new Desk();
+            int word = desk.word("kal");
+            int other = desk.word("tot");
+            for (int grammar = 0; grammar < 8; grammar++) {
+                desk.ending(1, grammar, "r" + (char) ('a' + grammar));
+                desk.own(1, other, grammar, "own" + (char) ('p' + grammar));
+            }
+            String slot = "[0" + CASES.charAt(shown / 2) + NUMBERS.charAt(shown % 2) + "]";
+            CHECK.same("form " + slot, "Kalr" + (char) ('a' + shown), shown(desk, 1, word, slot));
+            CHECK.same("own form " + slot, "Own" + (char) ('p' + shown), shown(desk, 1, other, slot));
             CHECK.same("in another language " + slot, "Tot", shown(desk, 0, other, slot));
         }
     }
