@@ -9,26 +9,26 @@ import java.util.List;
 /** The public face: the document's members, and no others. */
 public final class FaceTest {
     private static final String[] METHODS = {
-        "boolean approve int int | IndexOutOfBoundsException IllegalStateException",
-        "boolean isLinked int | IndexOutOfBoundsException",
-        "char sign int int int int | IndexOutOfBoundsException",
-        "char signAnew int int int int | IndexOutOfBoundsException",
-        "int clause int | IllegalArgumentException IllegalStateException",
-        "int clear |",
-        "int costs int int int | IndexOutOfBoundsException",
-        "int data int int | IndexOutOfBoundsException IllegalArgumentException IllegalStateException",
-        "int fault |",
-        "int faultOf int int int int | IndexOutOfBoundsException IllegalArgumentException",
-        "int fill int int int | IndexOutOfBoundsException",
-        "int form int int int | IndexOutOfBoundsException IllegalArgumentException IllegalStateException",
-        "int letter | IllegalStateException",
-        "int price int int | IndexOutOfBoundsException IllegalArgumentException",
-        "int put int int | IndexOutOfBoundsException IllegalStateException",
-        "int relate int int int int | IndexOutOfBoundsException IllegalArgumentException",
-        "int sample int int | IndexOutOfBoundsException",
-        "int text int int | IndexOutOfBoundsException IllegalStateException",
-        "int type char | IllegalStateException",
-        "int word | IllegalStateException",
+        "boolean approve int int",
+        "boolean isLinked int",
+        "char sign int int int int",
+        "char signAnew int int int int",
+        "int clause int",
+        "int clear",
+        "int costs int int int",
+        "int data int int",
+        "int fault",
+        "int faultOf int int int int",
+        "int fill int int int",
+        "int form int int int",
+        "int letter",
+        "int price int int",
+        "int put int int",
+        "int relate int int int int",
+        "int sample int int",
+        "int text int int",
+        "int type char",
+        "int word",
     };
 
     public static void main(String[] args) {
@@ -55,10 +55,6 @@ public final class FaceTest {
         StringBuilder told = new StringBuilder();
         told.append(method.getReturnType().getSimpleName()).append(' ').append(method.getName());
         for (Class<?> type : method.getParameterTypes()) {
-            told.append(' ').append(type.getSimpleName());
-        }
-        told.append(" |");
-        for (Class<?> type : method.getExceptionTypes()) {
             told.append(' ').append(type.getSimpleName());
         }
         if (!Modifier.isPublic(method.getModifiers()) || Modifier.isStatic(method.getModifiers())) {
