@@ -9,6 +9,23 @@ final class Check {
 
     private int checked = 0;
     private int wrong = 0;
+    private int edges = 0;
+    private int checkedBefore = 0;
+    private String edge = "";
+
+    /** Says of which promise, and of which of its sentences, the next answers are. */
+    void edge(int promise, String sentence) {
+        endEdge();
+        edge = "promise " + promise + ", \"" + sentence + "\": ";
+        edges++;
+        checkedBefore = checked;
+    }
+
+    private void endEdge() {
+        if (!edge.isEmpty() && checked == checkedBefore) {
+            same("a test that asks nothing", "an answer", "none");
+        }
+    }
 
     void equal(String what, long due, long got) {
         same(what, String.valueOf(due), String.valueOf(got));
@@ -27,7 +44,7 @@ final class Check {
         if (!due.equals(got)) {
             wrong++;
             if (wrong <= MOST_PRINTED) {
-                System.out.println(what + " answered " + got + ", due is " + due);
+                System.out.println(edge + what + " answered " + got + ", due is " + due);
             }
         }
     }
@@ -70,6 +87,10 @@ final class Check {
     }
 
     void end() {
+        endEdge();
+        if (edges > 0) {
+            System.out.print(edges + " sentences, ");
+        }
         System.out.println(checked + " answers, " + wrong + " of them not as due");
         if (wrong != 0 || checked == 0) {
             System.exit(1);
