@@ -9,26 +9,26 @@ import java.util.List;
 /** The public face: the document's members, and no others. */
 public final class FaceTest {
     private static final String[] METHODS = {
-        "boolean approve int int",
-        "boolean isLinked int",
-        "char sign int int int int",
-        "char signAnew int int int int",
-        "int clause int",
+        "boolean approve int int throws IndexOutOfBoundsException IllegalStateException",
+        "boolean isLinked int throws IndexOutOfBoundsException",
+        "char sign int int int int throws IndexOutOfBoundsException",
+        "char signAnew int int int int throws IndexOutOfBoundsException",
+        "int clause int throws IllegalArgumentException IllegalStateException",
         "int clear",
-        "int costs int int int",
-        "int data int int",
+        "int costs int int int throws IndexOutOfBoundsException",
+        "int data int int throws IndexOutOfBoundsException IllegalArgumentException IllegalStateException",
         "int fault",
-        "int faultOf int int int int",
-        "int fill int int int",
-        "int form int int int",
-        "int letter",
-        "int price int int",
-        "int put int int",
-        "int relate int int int int",
-        "int sample int int",
-        "int text int int",
-        "int type char",
-        "int word",
+        "int faultOf int int int int throws IndexOutOfBoundsException IllegalArgumentException",
+        "int fill int int int throws IndexOutOfBoundsException",
+        "int form int int int throws IndexOutOfBoundsException IllegalArgumentException IllegalStateException",
+        "int letter throws IllegalStateException",
+        "int price int int throws IndexOutOfBoundsException IllegalArgumentException",
+        "int put int int throws IndexOutOfBoundsException IllegalStateException",
+        "int relate int int int int throws IndexOutOfBoundsException IllegalArgumentException",
+        "int sample int int throws IndexOutOfBoundsException",
+        "int text int int throws IndexOutOfBoundsException IllegalStateException",
+        "int type char throws IllegalStateException",
+        "int word throws IllegalStateException",
     };
 
     public static void main(String[] args) {
@@ -56,6 +56,10 @@ public final class FaceTest {
         told.append(method.getReturnType().getSimpleName()).append(' ').append(method.getName());
         for (Class<?> type : method.getParameterTypes()) {
             told.append(' ').append(type.getSimpleName());
+        }
+        told.append(method.getExceptionTypes().length == 0 ? "" : " throws");
+        for (Class<?> thrown : method.getExceptionTypes()) {
+            told.append(' ').append(thrown.getSimpleName());
         }
         if (!Modifier.isPublic(method.getModifiers()) || Modifier.isStatic(method.getModifiers())) {
             told.append(" with other modifiers");
